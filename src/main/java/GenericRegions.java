@@ -642,7 +642,7 @@ public final class GenericRegions {
             if (b2 < a1) {
                 tape.addByFax(FaxLine.PASS_DIGITS, FaxLine.PASS_LENGTH, y);
                 line.goTo(b2);
-            } else if (i >= 0 && i < FaxLine.NEAR_DIGITS.length) {
+            } else if (i >= 0 && i < FaxLine.NEAR_DIGITS.length && i < FaxLine.NEAR_LENGTHS.length) {
                 tape.addByFax(FaxLine.NEAR_DIGITS[i], FaxLine.NEAR_LENGTHS[i], y);
                 line.turnAt(a1);
             } else {
@@ -841,7 +841,7 @@ public final class GenericRegions {
             if (digits == FaxLine.RUNS_DIGITS && length == FaxLine.RUNS_LENGTH) {
                 return RUNS_STEP;
             }
-            for (int i = 0; i < FaxLine.NEAR_DIGITS.length; i++) {
+            for (int i = 0; i < FaxLine.NEAR_DIGITS.length && i < FaxLine.NEAR_LENGTHS.length; i++) {
                 if (digits == FaxLine.NEAR_DIGITS[i] && length == FaxLine.NEAR_LENGTHS[i]) {
                     return i - FaxLine.NEAREST;
                 }
