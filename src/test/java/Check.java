@@ -5,14 +5,19 @@ final class Check {
     }
 
     private static int wrong = 0;
+    private static String sentence = "";
 
     private Check() {
     }
 
+    /** The words of the document that the checks from here on are about, printed with a wrong answer. */
+    static void sentence(int promise, String words) {
+        sentence = "promise " + promise + ", '" + words + "': ";
+    }
+
     static void due(String call, long got, long want) {
         if (got != want) {
-            wrong++;
-            System.out.println(call + " answered " + got + ", due is " + want);
+            isWrong(call, String.valueOf(got), String.valueOf(want));
         }
     }
 
@@ -22,9 +27,13 @@ final class Check {
 
     static void due(String call, String got, String want) {
         if (!got.equals(want)) {
-            wrong++;
-            System.out.println(call + " answered " + got + ", due is " + want);
+            isWrong(call, got, want);
         }
+    }
+
+    private static void isWrong(String call, String got, String want) {
+        wrong++;
+        System.out.println(sentence + call + " answered " + got + ", due is " + want);
     }
 
     static void index(String call, Call body) {
@@ -69,6 +78,26 @@ final class Check {
         return all.toString();
     }
 
+    /** All that an object shows, and what it does afterwards: the object is used up by it. */
+    static String future(GenericRegions x) {
+        StringBuilder all = new StringBuilder(state(x));
+        all.append(passOne(x)).append(x.read()).append(state(x));
+        all.append(x.tell()).append(state(x)).append(x.begin());
+        all.append(x.pass(6000)).append(x.read()).append(state(x));
+        for (int kind = 0; kind <= 2; kind++) {
+            all.append(x.way(kind, true)).append(x.tell()).append(state(x)).append(x.way(kind, false));
+        }
+        // a region with black in it shows where the loose places are
+        for (int y = 0; y < x.told(1); y++) {
+            all.append(x.row(y, 0x5a3c96 >> y));
+        }
+        return all.append(x.tell()).append(state(x)).toString();
+    }
+
+    private static String passOne(GenericRegions x) {
+        return x.told(5) == 6000 ? "full" : String.valueOf(x.pass(1));
+    }
+
     static String toldBits(GenericRegions x) {
         StringBuilder bits = new StringBuilder();
         for (int i = 0; i < x.told(4); i++) {
@@ -106,6 +135,31 @@ final class Check {
             for (int i = 0; i < rows[y].length(); i++) {
                 x.put(i, y, rows[y].charAt(i) == '#');
             }
+        }
+        return x;
+    }
+
+    /** The bits told (0), their contexts (1) or rows (2), with blanks between. */
+    static String column(GenericRegions x, int what) {
+        StringBuilder all = new StringBuilder();
+        for (int i = 0; i < x.told(4); i++) {
+            all.append(i == 0 ? "" : " ").append(x.bit(i, what));
+        }
+        return all.toString();
+    }
+
+    static void skipAll(GenericRegions x, int y) {
+        for (int i = 0; i < x.told(0); i++) {
+            x.skip(i, y, true);
+        }
+    }
+
+    /** An object to which as many bits came as may come. */
+    static GenericRegions full() {
+        GenericRegions x = new GenericRegions(24, 24, 0);
+        for (int came = 0; came < 6000; came += 576) {
+            x.tell();
+            x.pass(Math.min(576, 6000 - came));
         }
         return x;
     }

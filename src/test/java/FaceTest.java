@@ -5,6 +5,7 @@ import java.lang.reflect.Modifier;
 import java.nio.file.Files;
 import java.nio.file.Path;
 import java.util.HashSet;
+import java.util.Map;
 import java.util.Set;
 import java.util.TreeSet;
 import java.util.regex.Pattern;
@@ -12,11 +13,14 @@ import java.util.regex.Pattern;
 /** The public face as the document has it, and what LANGUAGE.md rules out, as far as the text shows it. */
 public final class FaceTest {
     private static final String[] METHODS = {
-        "boolean at(int,int)", "boolean got(int,int)", "boolean loose(int,int,int)", "boolean put(int,int,boolean)",
-        "boolean skip(int,int,boolean)", "boolean way(int,boolean)", "int begin()", "int bit(int,int)",
-        "int context(int,int)", "int copies()", "int feed(int)", "int pass(int)", "int read()", "int row(int,int)",
-        "int tell()", "int told(int)", "void clear()",
+        "boolean at(int,int) Index", "boolean got(int,int) Index", "boolean loose(int,int,int) Index Argument",
+        "boolean put(int,int,boolean) Index", "boolean skip(int,int,boolean) Index", "boolean way(int,boolean) Argument",
+        "int begin()", "int bit(int,int) Index Argument", "int context(int,int) Index", "int copies()",
+        "int feed(int) Argument Unsupported", "int pass(int) Argument Unsupported", "int read()",
+        "int row(int,int) Index", "int tell()", "int told(int)", "void clear()",
     };
+    private static final Map<Class<?>, String> SHORT = Map.of(IndexOutOfBoundsException.class, "Index",
+        IllegalArgumentException.class, "Argument", UnsupportedOperationException.class, "Unsupported");
     private static final String[] RULED_OUT = {
         "^import ", "^package ", "\\bcatch\\b", "\\btry\\b", "\\bfinally\\b", "->", "::", "\\bassert\\b",
         "\\bsynchronized\\b", "Exact\\(", "\\bSystem\\.(in|out|err|nano|current)", "\\bstatic \\{", "while \\(true\\)",
@@ -69,7 +73,11 @@ public final class FaceTest {
         for (Class<?> type : method.getParameterTypes()) {
             all.append(all.charAt(all.length() - 1) == '(' ? "" : ",").append(type.getName());
         }
-        return all.append(')').toString();
+        all.append(')');
+        for (Class<?> type : method.getExceptionTypes()) {
+            all.append(' ').append(SHORT.get(type));
+        }
+        return all.toString();
     }
 
     private static void sizes() {

@@ -17,30 +17,22 @@ public final class TellTest {
         Check.end();
     }
 
-    private static String column(GenericRegions x, int what) {
-        StringBuilder all = new StringBuilder();
-        for (int i = 0; i < x.told(4); i++) {
-            all.append(i == 0 ? "" : " ").append(x.bit(i, what));
-        }
-        return all.toString();
-    }
-
     private static void samples() {
         GenericRegions x = Check.region(2, "#.#", "##.");
         Check.due("tell", x.tell(), 6);
         Check.due("told(4)", x.told(4), 6);
-        Check.due("bits", column(x, 0), "1 0 1 1 1 0");
+        Check.due("bits", Check.column(x, 0), "1 0 1 1 1 0");
         // template 2: -1 0, -2 0, (2 -1), 1 -1, 0 -1, -1 -1, -2 -1, ..
-        Check.due("contexts", column(x, 1), "0 1 2 20 41 83");
-        Check.due("rows", column(x, 2), "0 0 0 1 1 1");
+        Check.due("contexts", Check.column(x, 1), "0 1 2 20 41 83");
+        Check.due("rows", Check.column(x, 2), "0 0 0 1 1 1");
         x.put(0, 0, false);
-        Check.due("what was told last stays", column(x, 0), "1 0 1 1 1 0");
+        Check.due("what was told last stays", Check.column(x, 0), "1 0 1 1 1 0");
         Check.due("tell anew", Check.tell(x), "001110");
         Check.due("no typical rows, no copies", x.copies(), 0);
         x.skip(2, 0, true);
         Check.due("skipped is not told", Check.tell(x), "00110");
-        Check.due("rows", column(x, 2), "0 0 1 1 1");
-        Check.due("contexts", column(x, 1), "0 0 0 1 3");
+        Check.due("rows", Check.column(x, 2), "0 0 1 1 1");
+        Check.due("contexts", Check.column(x, 1), "0 0 0 1 3");
     }
 
     private static void wrongBits() {
@@ -65,7 +57,7 @@ public final class TellTest {
         // copy, copy, none, copy, none, copy
         Check.due("bits", Check.tell(x), "1" + "0" + "101" + "1" + "110" + "1");
         Check.due("copies", x.copies(), 4);
-        Check.due("rows", column(x, 2), "0 1 2 2 2 3 4 4 4 5");
+        Check.due("rows", Check.column(x, 2), "0 1 2 2 2 3 4 4 4 5");
         x.way(0, false);
         Check.due("copies of what was told last", x.copies(), 4);
         Check.due("tell", x.tell(), 12);
@@ -108,7 +100,7 @@ public final class TellTest {
         GenericRegions x = Check.region(0, "#.", "#.");
         x.way(2, true);
         Check.due("bits", Check.tell(x), "0100101");
-        Check.due("rows", column(x, 2), "0 0 0 1 1 1 2");
+        Check.due("rows", Check.column(x, 2), "0 0 0 1 1 1 2");
         Check.due("context of the first", x.bit(0, 1), GenericRegions.OPEN);
         Check.due("context of a sample", x.bit(2, 1), 1);
         Check.due("context of the second", x.bit(3, 1), 65536);
@@ -179,8 +171,8 @@ public final class TellTest {
         Check.due("no copies", x.copies(), 0);
         x.way(2, true);
         Check.due("open", Check.tell(x), "0" + "00110101" + "0" + "111" + "1");
-        Check.due("contexts", column(x, 1), "65536" + " 65537".repeat(8) + " 65536" + " 65537".repeat(3) + " 65536");
-        Check.due("rows", column(x, 2), "0".repeat(9).replace("0", "0 ") + "1 1 1 1 2");
+        Check.due("contexts", Check.column(x, 1), "65536" + " 65537".repeat(8) + " 65536" + " 65537".repeat(3) + " 65536");
+        Check.due("rows", Check.column(x, 2), "0".repeat(9).replace("0", "0 ") + "1 1 1 1 2");
     }
 
     private static void numbers() {
