@@ -78,7 +78,7 @@ public final class AgainstModelTest {
         void call() {
             int column = pick(m.width);
             int y = pick(m.height);
-            switch (pick(19)) {
+            switch (pick(20)) {
                 case 0: put(column, y, pick(2) == 0); break;
                 case 1: case 2: row(y, someBits(y)); break;
                 case 3: if (pick(3) == 0) skip(column, y, pick(3) != 0); break;
@@ -93,6 +93,7 @@ public final class AgainstModelTest {
                 case 15: Check.due("at", x.at(column, y), m.black[y][column]); break;
                 case 16: Check.due("copies", x.copies(), m.copies); break;
                 case 17: passAndRead(6000); break;
+                case 18: wrong(); break;
                 default: if (pick(20) == 0) clear(); break;
             }
             same();
@@ -168,6 +169,23 @@ public final class AgainstModelTest {
             }
             if (pick(3) != 0) {
                 read();
+            }
+        }
+
+        /** A call that throws, in the midst of others: what follows shows that it changed nothing. */
+        private void wrong() {
+            int beyond = pick(2) == 0 ? -9 - pick(30) : 24 + pick(30);
+            switch (pick(10)) {
+                case 0: Check.index("put", () -> x.put(beyond, 0, true)); break;
+                case 1: Check.index("row", () -> x.row(beyond, -1)); break;
+                case 2: Check.index("skip", () -> x.skip(0, beyond, true)); break;
+                case 3: Check.index("loose", () -> x.loose(beyond, -1, 0)); break;
+                case 4: Check.argument("loose", () -> x.loose(0, beyond, -1)); break;
+                case 5: Check.argument("way", () -> x.way(beyond, true)); break;
+                case 6: Check.argument("feed", () -> x.feed(beyond)); break;
+                case 7: Check.argument("pass", () -> x.pass(-1 - Math.abs(beyond))); break;
+                case 8: Check.index("bit", () -> x.bit(beyond < 0 ? beyond : m.told.size(), 0)); break;
+                default: Check.index("got", () -> x.got(m.width, 0)); break;
             }
         }
 
