@@ -18,6 +18,7 @@ public final class ReadTest {
         refusedForGood();
         begin();
         told();
+        everyTwoRows();
         Check.end();
     }
 
@@ -375,5 +376,35 @@ public final class ReadTest {
         Check.due("NONE", GenericRegions.NONE, -1);
         Check.due("OPEN", GenericRegions.OPEN, 65536);
         Check.due("FAX", GenericRegions.FAX, 65537);
+    }
+
+    private static void everyTwoRows() {
+        for (int width = 1; width <= 5; width++) {
+            for (int rows = 0; rows < 1 << 2 * width; rows++) {
+                for (int ways = 0; ways < 8; ways++) {
+                    readBack(width, rows, ways);
+                }
+            }
+        }
+    }
+
+    private static void readBack(int width, int rows, int ways) {
+        GenericRegions x = new GenericRegions(width, 2, 0);
+        x.row(0, rows);
+        x.row(1, rows >> width);
+        for (int kind = 0; kind <= 2; kind++) {
+            x.way(kind, (ways >> kind & 1) == 1);
+        }
+        String call = "width " + width + ", rows " + rows + ", ways " + ways + ": ";
+        int bits = x.tell();
+        Check.due(call + "pass", x.pass(6000), bits);
+        Check.due(call + "read", x.read(), 2);
+        Check.due(call + "bits read", x.told(6), bits);
+        Check.due(call + "all", x.told(8), 1);
+        for (int y = 0; y < 2; y++) {
+            for (int i = 0; i < width; i++) {
+                Check.due(call + "got(" + i + ", " + y + ")", x.got(i, y), x.at(i, y));
+            }
+        }
     }
 }
